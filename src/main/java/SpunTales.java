@@ -379,6 +379,19 @@ public final class SpunTales {
         return sort > 0 ? sort - 1 : 0;
     }
 
+    private static boolean isRemembered(int lastHeard, int evening, int memory) {
+        return lastHeard > 0 && evening - lastHeard <= memory;
+    }
+
+    private static boolean areSame(int[] a, int[] b, int n) {
+        for (int i = 0; i < n; i++) {
+            if (a[i] != b[i]) {
+                return false;
+            }
+        }
+        return true;
+    }
+
     private static int asToldBy(int kind, int tension) {
         if (kind == TRUE) {
             return tension;
@@ -418,12 +431,7 @@ public final class SpunTales {
             return false;
         }
         hearth.tangleInto(tangled, a, b);
-        for (int k = 0; k < n; k++) {
-            if (tangled[k] != taken[k]) {
-                return false;
-            }
-        }
-        return true;
+        return areSame(tangled, taken, n);
     }
 
     /** All that an image keeps. */
@@ -472,8 +480,7 @@ public final class SpunTales {
         }
 
         boolean isInMind(int spinner, int tale, int evening) {
-            int last = heard[spinner][tale];
-            return last > 0 && evening - last <= memory;
+            return isRemembered(heard[spinner][tale], evening, memory);
         }
 
         int spend(int teller, int tale, int n, int set) {
@@ -656,7 +663,7 @@ public final class SpunTales {
             int evening = nextEvening + at;
             for (int tale = 0; tale < tales; tale++) {
                 int last = heard[tale];
-                boolean inMind = last > 0 && evening - last <= memory;
+                boolean inMind = isRemembered(last, evening, memory);
                 row[at] = tale;
                 heard[tale] = evening;
                 search(at + 1, sum + (inMind ? stale[tale] : fresh[tale]));
@@ -713,16 +720,7 @@ public final class SpunTales {
         /** A teller by whom a tale gives what it gives by an earlier one is never in the first row. */
         private boolean isUnlikeEarlier(int tale, int teller) {
             for (int earlier = 0; earlier < teller; earlier++) {
-                if (isSame(spun[place(tale, earlier)], spun[place(tale, teller)])) {
-                    return false;
-                }
-            }
-            return true;
-        }
-
-        private static boolean isSame(int[] a, int[] b) {
-            for (int sort = 0; sort < SORTS; sort++) {
-                if (a[sort] != b[sort]) {
+                if (areSame(spun[place(tale, earlier)], spun[place(tale, teller)], SORTS)) {
                     return false;
                 }
             }
@@ -877,7 +875,7 @@ public final class SpunTales {
 
         private void search(int step) {
             if (step >= steps) {
-                if (isGoal(versions[steps])) {
+                if (areSame(versions[steps], goal, length)) {
                     keepRow();
                 }
                 return;
@@ -887,15 +885,6 @@ public final class SpunTales {
                 retell(kinds[teller], versions[step], versions[step + 1], length);
                 search(step + 1);
             }
-        }
-
-        private boolean isGoal(int[] version) {
-            for (int i = 0; i < length; i++) {
-                if (version[i] != goal[i]) {
-                    return false;
-                }
-            }
-            return true;
         }
 
         private void keepRow() {

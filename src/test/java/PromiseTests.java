@@ -362,6 +362,7 @@ public final class PromiseTests {
         x.evening(0, 1, 1, 0);
         due(19, "restore()", x.restore(), 1);
         due(19, "it is the newer one", x.count(3), 2);
+        brokenOffImage();
         SpunTales y = new SpunTales();
         y.image();
         y.teller(0);
@@ -369,6 +370,19 @@ public final class PromiseTests {
         tale(y, "1");
         y.restore();
         for (int what = 0; what < 3; what++) due(19, "nobody again: count(" + what + ")", y.count(what), 0);
+    }
+
+    private static void brokenOffImage() {
+        SpunTales x = hearth(2, "999", "6666");
+        x.evening(0, 0, 2, 1);
+        x.image();
+        x.evening(1, 1, 3, 2);
+        x.restore();
+        int[] counts = {2, 4, 2, 1, 0, 0, 2};
+        for (int what = 0; what < 7; what++) due(19, "mid-tale: count(" + what + ")", x.count(what), counts[what]);
+        due(19, "mid-tale: it goes on", x.evening(0, 0, 9, 3), 2);
+        due(19, "who heard the beginning", x.mind(0), 1);
+        due(19, "who did not", x.mind(1), 0);
     }
 
     private static void coatDue(SpunTales x, int sheet, int lane, int i, int... row) {
@@ -429,6 +443,10 @@ public final class PromiseTests {
             {0, 2, 0, 1, 8}, {0, 2, 0, LOW, -1}};
         for (int[] b : bad) due(21, "read", x.read(b[0], b[1], b[2], b[3], b[4]), BAD);
         refusedRow(21, (sheet, lane, i, n) -> x.read(sheet, lane, i, n, -1), x, 3);
+        SpunTales dead = hearth(0, "3", "36", "9");
+        sheet(dead, 0, 0, 1, 2, 3);
+        due(21, "what fits at first may lead nowhere", dead.read(0, 0, 0, 3, 0), 1);
+        due(21, "what fits at first may lead nowhere", dead.read(0, 0, 0, 3, 1), 2);
         SpunTales all = hearth(0, "0", "1", "2", "0", "1", "2", "0", "1");
         all.sheet(0, 0, 16);
         due(21, "8 of 8 in any order", all.read(0, 0, 0, 8, -1), 40320);
