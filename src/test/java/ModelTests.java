@@ -5,7 +5,10 @@ import java.util.Random;
 /** Random runs of calls, each answer held against a plain model that works from the history of evenings. */
 public final class ModelTests {
     private static final int BAD = -1, NOT = -2, FULL = -3, NONE = -4, NULL = -11, CAST = -12, INDEX = -13, SIZE = -14;
+    /** An object is used for 512 calls at most, and no step of a run makes more than 40. */
+    private static final int MOST_CALLS = 512, MOST_OF_A_STEP = 40;
     private static int wrong = 0;
+    private static int made = 0;
 
     /** One evening as it was: who told what, from where to where, to whom. */
     private record Evening(int teller, int tale, int from, int to, int set, boolean ended) { }
@@ -464,6 +467,7 @@ public final class ModelTests {
     }
 
     private static void due(long seed, int call, String what, int got, int want) {
+        made++;
         if (got != want && wrong++ < 50) {
             System.out.println("run " + seed + ", call " + call + ": " + what + " answered " + got + ", due is " + want);
         }
@@ -483,7 +487,8 @@ public final class ModelTests {
         SpunTales x = new SpunTales();
         Model m = new Model();
         int mostTales = 1 + r.nextInt(8), longest = 1 + r.nextInt(8), alike = r.nextInt(3);
-        for (int call = 0; call < 300 && wrong < 50; call++) {
+        made = 0;
+        for (int call = 0; made <= MOST_CALLS - MOST_OF_A_STEP && wrong < 50; call++) {
             int what = r.nextInt(32);
             if (call < 12 && r.nextInt(5) > 0) what = r.nextInt(3);
             call(r, x, m, seed, call, what, mostTales, longest, alike);
@@ -658,7 +663,7 @@ public final class ModelTests {
     }
 
     public static void main(String[] args) {
-        int runs = args.length > 0 ? Integer.parseInt(args[0]) : 400;
+        int runs = args.length > 0 ? Integer.parseInt(args[0]) : 3000;
         for (long seed = 1; seed <= runs && wrong < 50; seed++) oneRun(seed);
         System.out.println(wrong == 0 ? "all answers are as the model's" : wrong + " answers are not as the model's");
         if (wrong != 0) System.exit(1);
