@@ -649,7 +649,8 @@ public final class EdgeTests {
     }
 
     private static void imageOfAll() {
-        SpunTales x = hearth(kinds(TURNED, GRAND, DULL, TRUE), 4, "9", "8", "7", "6", "5", "4", "333333333", "222222222");
+        String[] texts = {"9", "8", "7", "6", "5", "4", "333333333", "222222222"};
+        SpunTales x = hearth(kinds(TURNED, GRAND, DULL, TRUE), 4, texts);
         x.memory(99);
         x.evening(3, 0, 9, 8);
         x.evening(1, 6, 8, 12);
@@ -657,21 +658,56 @@ public final class EdgeTests {
         for (int again = 0; again < 2; again++) {
             x.evening(1, 6, 1, 4);
             x.evening(0, 7, 3, 15);
-            x.change(6, 8, 0);
+            for (int t = 0; t < 8; t++) x.evening(3, t, 9, 15);
+            for (int t = 0; t < 8; t++) for (int i = 0; i < x.told(t, -1); i++) x.change(t, i, 0);
             x.use(3, 3, 1);
             x.memory(1);
             due("restored", x.restore(), 1);
             int[] counts = {8, 4, 4, 2, 6, 1, 8};
             for (int what = 0; what < 7; what++) due("count " + what, x.count(what), counts[what]);
-            toldDue("a tale", x, 6, "333333333");
+            for (int t = 0; t < 8; t++) toldDue("tale " + t, x, t, texts[t]);
+            int[] told = {8, 9, 8, 9};
+            for (int t = 0; t < 4; t++) due("teller " + t, x.tells(t, 0, 0), told[t]);
             yardsDue("the last spinner", x, 3, 0, 8, 0, 1);
+            yardsDue("the one ahead", x, 2, 0, 8, 0, 0);
+            yardsDue("the second spinner", x, 1, 0, 0, 0, 0);
             yardsDue("the first spinner", x, 0, 0, 0, 0, 0);
-            due("mind", x.mind(3), 1);
+            for (int s = 0; s < 4; s++) due("mind of " + s, x.mind(s), s == 3 ? 1 : 0);
             due("memory", x.memory(99), 99);
         }
         due("it goes on", x.evening(1, 6, 9, 15), 4);
         due("who has heard all of it", x.mind(2), 64);
         due("who has not", x.mind(1), 0);
+    }
+
+    /** What was sought among more tales and tellers than there are now leaves nothing behind. */
+    private static void soughtAgainBehindAnImage() {
+        SpunTales x = plain("6");
+        fill(x, 0, 0, 0, 0, 0, 1);
+        fill(x, 1, 0, 9);
+        fill(x, 2, 0, 0, 9);
+        x.image();
+        tale(x, "9");
+        tale(x, "0");
+        x.teller(GRAND);
+        due("a coat", x.coat(0, 0, 0, 0, 0), 10);
+        due("a store", x.store(0, 1, 0), 1);
+        due("a row", x.read(0, 0, 0, 4, -1), 0);
+        due("passed", x.passed(1, 2, 1, 0, 0, 1, -1), 4);
+        due("untangled", x.untangle(2, 0, 0, 2, 1), 21);
+        x.restore();
+        due("no coat", x.coat(0, 0, 0, 0, 0), NONE);
+        due("no coat", x.coat(0, 0, 0, 0, -1), NONE);
+        due("another store", x.store(0, 1, 0), 0);
+        due("not passed", x.passed(0, 2, 1, 0, 0, 1, -1), 0);
+        due("nothing untangled", x.untangle(2, 0, 0, 2, 0), 0);
+        x.change(0, 0, 0);
+        due("a store of nothing", x.store(0, 2, -1), 0);
+        tale(x, "9");
+        due("a store of 9 and 0", x.store(0, 1, 0), 1);
+        x.change(1, 0, 0);
+        due("of like ones the first, whatever was sought ahead", x.store(0, 1, 0), 0);
+        due("of like ones the first, whatever was sought ahead", x.store(0, 1, -1), 0);
     }
 
     private static void imagesLeaveSheetsAndTape() {
@@ -834,6 +870,10 @@ public final class EdgeTests {
         readDue("one short of an end", sorts, 6, 0);
         sorts.item(0, 0, 6, 1);
         readDue("another last one", sorts, 7, 0);
+        SpunTales dead = plain("3", "36", "9");
+        fill(dead, 0, 0, 1, 2, 3);
+        readDue("what fits at first may lead nowhere", dead, 3, 1, 1, 2);
+        readDue("and may fit up to the end of the row", dead, 1, 1, 0);
         SpunTales mind = plain("9");
         mind.evening(0, 0, 1, 1);
         fill(mind, 0, 0, 3);
@@ -1061,6 +1101,11 @@ public final class EdgeTests {
         x.drop(2);
         x.sheet(2, 0, 3);
         itemsDue("dropped in between", x, 2, 0, 0, 0, 0, 0);
+        int[] full = new int[24];
+        java.util.Arrays.fill(full, 7);
+        fill(x, 2, 2, full);
+        x.sheet(2, 2, 24);
+        itemsDue("24 items", x, 2, 2, 0, new int[24]);
         fill(x, 2, 0, 7, 7, 7);
         x.sheet(2, 0, -1);
         x.sheet(2, 0, 25);
@@ -1202,6 +1247,7 @@ public final class EdgeTests {
         imageOfNothing();
         imageOfAll();
         imagesLeaveSheetsAndTape();
+        soughtAgainBehindAnImage();
     }
 
     private static void sheets() {

@@ -85,8 +85,14 @@ public final class RefusalTests {
         return x;
     }
 
-    /** An object in which tale 7 is broken off, with an image in which tale 1 is, and blanks and digits on the tape. */
     private static SpunTales full() {
+        SpunTales x = fullButTheTape();
+        x.type(0x203432L, 3);
+        return x;
+    }
+
+    /** An object in which tale 7 is broken off, with an image in which tale 1 is. */
+    private static SpunTales fullButTheTape() {
         SpunTales x = new SpunTales();
         tales(x, "5", "369036903", "99");
         x.teller(0);
@@ -105,7 +111,6 @@ public final class RefusalTests {
         x.evening(0, 2, 9, 15);
         x.evening(2, 7, 1, 7);
         sheets(x);
-        x.type(0x203432L, 3);
         return x;
     }
 
@@ -202,7 +207,7 @@ public final class RefusalTests {
             new Call("mind", BAD, (x, a) -> x.mind(a[0]), aSpinner),
             new Call("count", BAD, (x, a) -> x.count(a[0]), from(0, 6, 0)),
             new Call("evening", BAD, (x, a) -> x.evening(a[0], a[1], a[2], a[3]), aTeller, aTale, from(1, 9, 1), from(0, (1 << spinners) - 1, 0)),
-            new Call("store", BAD, (x, a) -> x.store(a[0], a[1], a[2]), aSpinner, from(1, 5, 2), from(-1, 1, 0)),
+            new Call("store", BAD, (x, a) -> x.store(a[0], a[1], a[2]), aSpinner, from(1, 5, 2), from(-1, 1, -1)),
             new Call("play", BAD - 100000, (x, a) -> x.play(a[0], a[1], a[2], a[3], a[4]), aTeller, aTale, from(1, sentences, 1), from(0, 9, 5), zeroOrOne),
             new Call("rests", BAD, (x, a) -> x.rests(a[0], a[1], a[2]), aTeller, aTale, zeroOrOne),
             new Call("coat", BAD, (x, a) -> x.coat(a[0], a[1], a[2], a[3], a[4]), aSpinner, sheet, lane, any(0), from(-1, 7, 0)),
@@ -210,7 +215,7 @@ public final class RefusalTests {
             new Call("untangle", BAD, (x, a) -> x.untangle(a[0], a[1], a[2], a[3], a[4]), sheet, lane, any(0), from(1, 16, 4), zeroOrOne),
             new Call("tangle", BAD, (x, a) -> x.tangle(a[0], a[1], a[2], a[3], a[4]), aTale, unlike, sheet, lane, any(0)),
             new Call("passed", BAD, (x, a) -> x.passed(a[0], a[1], a[2], a[3], a[4], a[5], a[6]),
-                aTale, from(1, 3, 2), sheet, lane, any(0), from(1, 9, 4), from(-1, 1, 0)),
+                aTale, from(1, 3, 2), sheet, lane, any(0), from(1, 9, 4), from(-1, 1, -1)),
             new Call("sheet", BAD, (x, a) -> x.sheet(a[0], a[1], a[2]), sheet, lane, from(LOW, 24, 5)),
             new Call("drop", BAD, (x, a) -> x.drop(a[0]), sheet),
             new Call("item", BAD, (x, a) -> x.item(a[0], a[1], a[2], 5), sheet, lane, any(0)),
@@ -313,7 +318,7 @@ public final class RefusalTests {
             Fault.behind(NOT, item(0, 10)), Fault.behind(NOT, item(3, -1)), Fault.of(NONE, 4, 1));
         ranks("passed", RefusalTests::full, (x, a) -> x.passed(a[0], a[1], a[2], a[3], a[4], a[5], a[6]), new int[] {5, 2, 0, 0, 0, 4, 0},
             Fault.of(BAD, 0, -1), Fault.of(BAD, 0, 8), Fault.of(BAD, 1, 0), Fault.of(BAD, 1, 4), Fault.of(BAD, 2, -1), Fault.of(BAD, 2, 4),
-            Fault.of(BAD, 3, -1), Fault.of(BAD, 3, 3), Fault.of(BAD, 5, 0), Fault.of(BAD, 5, 10), Fault.of(BAD, 6, -2), Fault.of(BAD, 6, 2),
+            Fault.of(BAD, 3, -1), Fault.of(BAD, 3, 3), Fault.of(BAD, 5, 0), Fault.of(BAD, 5, 10), Fault.of(BAD, 6, -2), Fault.of(BAD, 6, 2), Fault.of(BAD, 6, 3),
             Fault.of(NULL, 2, 3), Fault.of(CAST, 3, 1), Fault.of(CAST, 2, 2),
             Fault.of(INDEX, 4, -1), Fault.of(INDEX, 4, 3), Fault.of(INDEX, 4, LOW), Fault.of(INDEX, 4, HIGH), Fault.of(INDEX, 5, 7), Fault.of(INDEX, 5, 9),
             Fault.behind(NOT, item(0, 10)), Fault.behind(NOT, item(3, -1)), Fault.of(NONE, 6, 1), Fault.of(NONE, 5, 5));
@@ -349,6 +354,19 @@ public final class RefusalTests {
             Fault.of(BAD, 0, 4), Fault.of(NULL, 0, 3), Fault.of(CAST, 2, 2), Fault.of(INDEX, 1, 2), Fault.of(INDEX, 3, 1), Fault.of(INDEX, 4, -1));
     }
 
+    // ---- a refused tale changes nothing but the tape, which is empty then
+
+    private static void refusedTales() {
+        String[] texts = {"", "   ", "x", " 12-", "1234567890", "5", "123456789", " 1 2 "};
+        int[] want = {-20, -23, -20, -23, -29, FULL, FULL, FULL};
+        for (int t = 0; t < texts.length; t++) {
+            SpunTales x = fullButTheTape();
+            for (char c : texts[t].toCharArray()) x.type(c, 1);
+            due("tale() of '" + texts[t] + "'", x.tale(), want[t]);
+            due("tale() of '" + texts[t] + "': nothing else is changed", all(x).equals(all(fullButTheTape())), true);
+        }
+    }
+
     // ---- what only tells changes nothing, either
 
     private static void telling() {
@@ -371,6 +389,7 @@ public final class RefusalTests {
         ranksOfTalesAndPeople();
         ranksOfRows();
         ranksOfSheets();
+        refusedTales();
         telling();
         System.out.println(wrong == 0 ? held + " refusals are as told" : wrong + " refusals are not as told");
         if (wrong != 0) System.exit(1);
