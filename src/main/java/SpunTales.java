@@ -8,7 +8,7 @@ public final class SpunTales {
     private static final int SHEETS = 4, LANES = 3, MAX_ITEMS = 24, BYTES = 0, SHORTS = 1;
     private static final int TAPE_ROOM = 24, MAX_TYPED = 8, BLANK = 32, LAST_SIGN = 126, FIRST_FAULT = -20;
     private static final int TRUE = 0, GRAND = 2, TURNED = 3;
-    private static final int FIRST_MEMORY = 20, NOTHING = -1, FINE = 0, FAR_BELOW = -100000;
+    private static final int FIRST_MEMORY = 20, NOTHING = -1, GRANTED = 0, FAR_BELOW = -100000;
 
     private final Hearth hearth = new Hearth();
     private final Hearth kept = new Hearth();
@@ -216,7 +216,7 @@ public final class SpunTales {
             return BAD;
         }
         int refused = takeItems(sheet, lane, i, SORTS, MAX_WANTED);
-        if (refused != FINE) {
+        if (refused != GRANTED) {
             return refused;
         }
         coatSearch.run(hearth, spinner, taken);
@@ -234,7 +234,7 @@ public final class SpunTales {
             return BAD;
         }
         int refused = takeItems(sheet, lane, i, n, SORTS - 1);
-        if (refused != FINE) {
+        if (refused != GRANTED) {
             return refused;
         }
         rowReading.run(hearth, taken, n);
@@ -249,7 +249,7 @@ public final class SpunTales {
             return BAD;
         }
         int refused = takeItems(sheet, lane, i, n, MAX_TENSION);
-        if (refused != FINE) {
+        if (refused != GRANTED) {
             return refused;
         }
         int pairs = 0;
@@ -271,7 +271,7 @@ public final class SpunTales {
         }
         int size = hearth.tangleInto(tangled, a, b);
         int refused = sheets[sheet].refusal(lane, i, size);
-        if (refused != FINE) {
+        if (refused != GRANTED) {
             return refused;
         }
         for (int k = 0; k < size; k++) {
@@ -286,7 +286,7 @@ public final class SpunTales {
             return BAD;
         }
         int refused = takeItems(sheet, lane, i, n, MAX_TENSION);
-        if (refused != FINE) {
+        if (refused != GRANTED) {
             return refused;
         }
         passing.run(hearth, tale, k, taken, n);
@@ -323,7 +323,7 @@ public final class SpunTales {
             return BAD;
         }
         int refused = sheets[sheet].refusal(lane, i, 1);
-        if (refused != FINE) {
+        if (refused != GRANTED) {
             return refused;
         }
         sheets[sheet].put(i, v);
@@ -414,7 +414,7 @@ public final class SpunTales {
 
     private int takeItems(int sheet, int lane, int i, int n, int most) {
         int refused = sheets[sheet].refusal(lane, i, n);
-        if (refused != FINE) {
+        if (refused != GRANTED) {
             return refused;
         }
         for (int k = 0; k < n; k++) {
@@ -423,7 +423,7 @@ public final class SpunTales {
                 return NOT;
             }
         }
-        return FINE;
+        return GRANTED;
     }
 
     private boolean areTangledTo(int a, int b, int n) {
@@ -605,7 +605,7 @@ public final class SpunTales {
             if (lane != askedLane) {
                 return CAST;
             }
-            return hasItems(i, n) ? FINE : INDEX;
+            return hasItems(i, n) ? GRANTED : INDEX;
         }
 
         void put(int i, long v) {

@@ -70,7 +70,9 @@ public final class FaceTests {
         for (String s : METHODS) names.add(s.substring(0, s.indexOf('(')));
         Class<?>[] inside = SpunTales.class.getDeclaredClasses();
         due("at most twelve classes", inside.length < 12, true);
+        fewFields(SpunTales.class);
         for (Class<?> c : inside) {
+            fewFields(c);
             due(c + " is static and not public", Modifier.isStatic(c.getModifiers()) && !Modifier.isPublic(c.getModifiers()), true);
             for (Method m : c.getDeclaredMethods()) {
                 due(m + " bears a name of the face", names.contains(m.getName()), false);
@@ -79,7 +81,17 @@ public final class FaceTests {
         }
         for (Method m : SpunTales.class.getDeclaredMethods()) {
             if (Modifier.isPrivate(m.getModifiers())) due(m + " bears a name of the face", names.contains(m.getName()), false);
+            due(m + " has at most seven parameters", m.getParameterCount() <= 7, true);
         }
+    }
+
+    private static void fewFields(Class<?> c) {
+        int fields = 0;
+        for (Field f : c.getDeclaredFields()) {
+            if (!Modifier.isStatic(f.getModifiers())) fields++;
+            else due(f + " is final", Modifier.isFinal(f.getModifiers()), true);
+        }
+        due(c + " has at most twenty fields", fields <= 20, true);
     }
 
     private static void theText() throws Exception {
